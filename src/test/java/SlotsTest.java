@@ -156,7 +156,8 @@ public final class SlotsTest {
         Check.equal("promise 5: cut", x.resize(1, 21), 60);
         Check.equal("promise 5: the first ones", Check.read(x, 1), Arrays.copyOf(bytes, 21));
         Check.equal("promise 5: fill", x.resize(1, 45), 21);
-        Check.equal("promise 5: zeros, not what was there", Check.read(x, 1), Arrays.copyOf(Arrays.copyOf(bytes, 21), 45));
+        byte[] filled = Arrays.copyOf(Arrays.copyOf(bytes, 21), 45);
+        Check.equal("promise 5: zeros, not what was there", Check.read(x, 1), filled);
         Check.equal("promise 5: as it is", x.resize(1, 45), 45);
         Check.equal("promise 5: to the most", x.resize(1, 8192), 45);
         Check.equal("promise 5: the most", x.length(1), 8192);
