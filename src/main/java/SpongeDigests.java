@@ -219,28 +219,6 @@ public final class SpongeDigests {
     public int digest(int kind, int n) throws IllegalArgumentException {
         requireWithin(kind, 1, LAST_KIND);
         requireWithin(n, 0, MOST_BYTES);
-        fillShared(kind, n);
-        return slots[SHARED].size;
-    }
-
-    private Bytes slotAt(int slot) {
-        requireWithin(slot, 0, SLOT_COUNT - 1);
-        return slots[slot];
-    }
-
-    private static void requireWithin(int number, int least, int most) {
-        if (number < least || number > most) {
-            throw new IllegalArgumentException("a number is out of range");
-        }
-    }
-
-    private static void requirePlace(Bytes bytes, int i) {
-        if (i < 0 || i >= bytes.size) {
-            throw new IndexOutOfBoundsException("the slot has no such byte");
-        }
-    }
-
-    private void fillShared(int kind, int n) {
         switch (kind) {
             case 1: hashInBlocks(hash256, START_256, 32); break;
             case 2: hashInBlocks(hash512, START_384, 48); break;
@@ -258,6 +236,24 @@ public final class SpongeDigests {
             case 14: hashWithKey(hash512, START_512); break;
             case 15: hashWithCounter(hash256, START_256, n); break;
             default: hashWithCounter(hash512, START_512, n); break;
+        }
+        return slots[SHARED].size;
+    }
+
+    private Bytes slotAt(int slot) {
+        requireWithin(slot, 0, SLOT_COUNT - 1);
+        return slots[slot];
+    }
+
+    private static void requireWithin(int number, int least, int most) {
+        if (number < least || number > most) {
+            throw new IllegalArgumentException("a number is out of range");
+        }
+    }
+
+    private static void requirePlace(Bytes bytes, int i) {
+        if (i < 0 || i >= bytes.size) {
+            throw new IndexOutOfBoundsException("the slot has no such byte");
         }
     }
 
@@ -531,17 +527,6 @@ public final class SpongeDigests {
         }
 
         private void finish(byte[] to, int at, int count) {
-            pad();
-            int done = 0;
-            for (int i = 0; i < LETTERS; i++) {
-                for (int shift = wordBits - 8; shift >= 0 && done < count; shift -= 8) {
-                    to[at + done] = (byte) (state[i] >>> shift);
-                    done++;
-                }
-            }
-        }
-
-        private void pad() {
             block[filled] = (byte) 128;
             filled++;
             if (filled > blockBytes - blockBytes / 8) {
@@ -555,6 +540,17 @@ public final class SpongeDigests {
                 block[blockBytes - 1 - i] = (byte) (bits >>> 8 * i);
             }
             compress();
+            writeState(to, at, count);
+        }
+
+        private void writeState(byte[] to, int at, int count) {
+            int done = 0;
+            for (int i = 0; i < LETTERS; i++) {
+                for (int shift = wordBits - 8; shift >= 0 && done < count; shift -= 8) {
+                    to[at + done] = (byte) (state[i] >>> shift);
+                    done++;
+                }
+            }
         }
 
         private void compress() {
