@@ -59,11 +59,16 @@ final class Check {
 
     /** Brings bytes into a slot; no more than 8180, the most that whole feeds can bring. */
     static void load(SpongeDigests x, int slot, byte[] bytes) {
+        feedAll(x, bytes);
+        x.end(slot, bytes.length);
+    }
+
+    /** Brings bytes to the tape, and zeros behind them to a multiple of 20. */
+    static void feedAll(SpongeDigests x, byte[] bytes) {
         byte[] fed = Arrays.copyOf(bytes, (bytes.length + 19) / 20 * 20);
         for (int i = 0; i < fed.length; i += 20) {
             x.feed(intAt(fed, i), intAt(fed, i + 4), intAt(fed, i + 8), intAt(fed, i + 12), intAt(fed, i + 16));
         }
-        x.end(slot, bytes.length);
     }
 
     /** All bytes of a slot, in one call for its length and one for each eight of them. */
