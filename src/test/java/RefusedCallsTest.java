@@ -138,19 +138,26 @@ public final class RefusedCallsTest {
     /** A number out of range comes first, before a place or a tape that has not enough. */
     private static void wrongInTwoWays() {
         for (Held held : new Held[] {Held.nothing(), Held.some(), Held.full()}) {
-            SpongeDigests x = held.make();
-            Check.refuses("promise 3: slot and tape", Check.RANGE, () -> x.end(8, 8192));
-            Check.refuses("promise 3: slot and tape", Check.RANGE, () -> x.end(-1, 8192));
-            Check.refuses("promise 3: n and tape", Check.RANGE, () -> x.end(0, 8193));
-            Check.refuses("promise 3: slot and n", Check.RANGE, () -> x.end(8, 8193));
-            Check.refuses("promise 6: slot and place", Check.RANGE, () -> x.alter(8, 8192, 1));
-            Check.refuses("promise 6: slot and place", Check.RANGE, () -> x.alter(-1, -1, 1));
-            Check.refuses("promise 6: v and place behind", Check.RANGE, () -> x.alter(0, 8192, 256));
-            Check.refuses("promise 6: v and place before", Check.RANGE, () -> x.alter(0, -1, -1));
-            Check.refuses("promise 8: slot and place", Check.RANGE, () -> x.word(8, 8192));
-            Check.refuses("promise 8: slot and place", Check.RANGE, () -> x.word(-1, -1));
-            Check.refuses("promise 10: kind and n", Check.RANGE, () -> x.digest(17, 8193));
-            Check.refuses("promise 10: kind and n", Check.RANGE, () -> x.digest(0, -1));
+            held.check("wrong in two ways", () -> {
+                SpongeDigests x = held.make();
+                refuseInTwoWays(x);
+                return x;
+            });
         }
+    }
+
+    private static void refuseInTwoWays(SpongeDigests x) {
+        Check.refuses("promise 3: slot and tape", Check.RANGE, () -> x.end(8, 8192));
+        Check.refuses("promise 3: slot and tape", Check.RANGE, () -> x.end(-1, 8192));
+        Check.refuses("promise 3: n and tape", Check.RANGE, () -> x.end(0, 8193));
+        Check.refuses("promise 3: slot and n", Check.RANGE, () -> x.end(8, 8193));
+        Check.refuses("promise 6: slot and place", Check.RANGE, () -> x.alter(8, 8192, 1));
+        Check.refuses("promise 6: slot and place", Check.RANGE, () -> x.alter(-1, -1, 1));
+        Check.refuses("promise 6: v and place behind", Check.RANGE, () -> x.alter(0, 8192, 256));
+        Check.refuses("promise 6: v and place before", Check.RANGE, () -> x.alter(0, -1, -1));
+        Check.refuses("promise 8: slot and place", Check.RANGE, () -> x.word(8, 8192));
+        Check.refuses("promise 8: slot and place", Check.RANGE, () -> x.word(-1, -1));
+        Check.refuses("promise 10: kind and n", Check.RANGE, () -> x.digest(17, 8193));
+        Check.refuses("promise 10: kind and n", Check.RANGE, () -> x.digest(0, -1));
     }
 }
